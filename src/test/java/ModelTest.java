@@ -107,14 +107,12 @@ public final class ModelTest {
                             .append(upTo(40)).append(' ').append(1 + upTo(98));
                     towns++;
                     break;
-                case 2:
-                    if (towns > 0) {
-                        s.append("house ").append(upTo(Math.min(3, towns - 1)));
-                        break;
-                    }
-                    // falls through: there is no town for a house yet
                 default:
-                    s.append("frost").append(upTo(11)).append(' ').append(1 + upTo(98));
+                    if (towns > 0 && random.nextInt(4) == 0) {
+                        s.append("house ").append(upTo(Math.min(3, towns - 1)));
+                    } else {
+                        s.append("frost").append(upTo(11)).append(' ').append(1 + upTo(98));
+                    }
                     break;
             }
         }
