@@ -604,7 +604,6 @@ public final class PondIceTrade {
 
         static boolean reads(Tape tape, World told) {
             told.clear();
-            told.told = true;
             tape.split();
             for (int clause = 0; clause <= MOST_CLAUSES; clause++) {
                 if (!opens(tape, told, clause) || !readClause(tape, told)) {
@@ -1044,13 +1043,6 @@ public final class PondIceTrade {
             dust = other.dust;
         }
 
-        void clear() {
-            hold = 0;
-            cost = 0;
-            unload();
-            toGo = 0;
-        }
-
         void unload() {
             goesTo = NONE;
             blocks = 0;
@@ -1093,16 +1085,6 @@ public final class PondIceTrade {
             stock = other.stock;
             house = other.house;
             sold = other.sold;
-        }
-
-        void clear() {
-            months = 0;
-            heat = 0;
-            want = 0;
-            price = 0;
-            stock = 0;
-            house = false;
-            sold = 0;
         }
 
         int detail(int what) {
@@ -1219,22 +1201,16 @@ public final class PondIceTrade {
             }
         }
 
+        /** For a text that tells all anew: what every text tells is not cleared, nor what none does. */
         void clear() {
-            told = false;
-            money = 0;
-            wage = 0;
-            pond = 0;
-            month = 0;
+            told = true;
             shipCount = 0;
             townCount = 0;
             for (int i = 0; i < YEAR; i++) {
                 frost[i] = 0;
             }
-            for (int i = 0; i < MOST_SHIPS; i++) {
-                ships[i].clear();
-            }
             for (int i = 0; i < MOST_TOWNS; i++) {
-                towns[i].clear();
+                towns[i].house = false;
             }
         }
 

@@ -378,6 +378,7 @@ public final class PromiseTest {
         due("and one less", t.comes(0, t.load(0, 77, true) - 1, true), 76);
         due("load for 4 far away", t.load(1, 4, false) <= 999 ? 1 : 0, 1);
         due("999 are not enough", t.load(1, 5, false), -2);
+        due("999 are just enough", Checks.told("trade 0 0 0;town 4 44 1 1").load(0, 98, false), 999);
         due("load for 0", t.load(0, 0, false), NONE);
         due("load for 100", t.load(2, 100, false), NONE);
         due("load without a TOWN", t.load(4, 1, false), NONE);
@@ -399,6 +400,7 @@ public final class PromiseTest {
         sendIs("trade 100 1 50;ship 10 2;town 2 0 5 4", 1, 100, NONE, 0, 0);
         sendIs("trade 100 0 50;ship 10 0;town 2 0 5 4", 1, 100, NONE, 0, 0);
         sendIs("trade 100 0 50;ship 10 0;town 1 40 10 5", 1, 135, 0, 10, 1);
+        sendIs("trade 100 0 50;ship 5 0;town 1 40 10 5", 1, 115, 0, 5, 0);
         sendIs("trade 9 0 50;ship 10 0;town 1 40 10 5", 1, 40, 0, 9, 1);
         sendIs("trade 0 0 50;ship 10 0;town 1 40 10 5", 1, 30, 0, 10, 0);
         sendIs("trade 0 0 50;ship 10 0;town 1 40 6 5;town 1 40 6 5", 1, 30, 0, 10, 0);
@@ -541,6 +543,14 @@ public final class PromiseTest {
         PondIceTrade unwanted = Checks.told("trade 0 0 5;ship 5 0;town 1 0 0 1");
         unwanted.sail(0, 0, 5, false);
         due("ice that nobody WANTS", unwanted.out(), -2);
+        PondIceTrade last = Checks.told("trade 0 0 60;ship 99 0;town 1 1 0 1");
+        last.sail(0, 0, 60, false);
+        due("ice that melts by one block a MONTH: the last of the 60", last.out(), 59);
+        PondIceTrade late = Checks.told("trade 0 0 61;ship 99 0;town 1 1 0 1");
+        late.sail(0, 0, 61, false);
+        due("one MONTH later is none of these", late.out(), -2);
+        late.month();
+        due("but from the next MONTH on it is", late.out(), 60);
     }
 
     private static void hatch() {
@@ -624,6 +634,10 @@ public final class PromiseTest {
         due("five", t.ruled(0), 5);
         due("the most alike are two", t.look(1), 2);
         due("in the least such MONTH", t.look(0), 2);
+        PondIceTrade last = Checks.told("trade 100 0 50;frost 10 9;ship 10 0;town 1 0 99 4");
+        Checks.rule(last, "sail 5 if month = 59");
+        due("they part in the last MONTH", last.look(0), 60);
+        due("and there each by itself", last.look(1), 1);
     }
 
     private static void seed() {
@@ -758,6 +772,10 @@ public final class PromiseTest {
         due("for one MONTH", t.send(0, 1, 0), 120);
         Checks.trade(t, "trade 7 0 50;ship 10 0;town 1 0 5 4");
         due("behind a TRADE", t.send(0, 1, 0), 27);
+        Checks.trade(t, "trade 7 0 50;ship 10 0;ship 2 0;town 1 0 5 4");
+        due("the second SHIP", t.send(1, 1, 0), 23);
+        due("then the first", t.send(0, 1, 0), 27);
+        due("then the second", t.send(1, 1, 0), 23);
         t.ask(0, 1);
         t.send(0, 1, 0);
         t.undo();

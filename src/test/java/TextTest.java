@@ -226,6 +226,12 @@ public final class TextTest {
         ruleFails("sail", 4, ODD);
         ruleFails("sail 1 if", 9, ODD);
         ruleFails("sails 1", 0, ODD);
+        ruleFails("sailz 1", 0, ODD);
+        ruleFails("saila 1", 0, ODD);
+        ruleFails("sail{1", 4, ODD);
+        ruleFails("sail`1", 4, ODD);
+        ruleFails("sail 1/", 7, ODD);
+        ruleFails("sail 1:", 6, ODD);
         ruleFails("sail x", 5, ODD);
         ruleFails("sail 1;", 7, ODD);
         ruleFails("sail 1 if want = 1]", 18, ODD);
