@@ -445,6 +445,12 @@ public final class PondIceTrade {
         int at;
         int fault;
 
+        Tape() {
+            for (int i = 0; i < wordRow.length; i++) {
+                wordRow[i] = Word.OTHER;
+            }
+        }
+
         boolean hasRoomFor(int more) {
             return length + more <= MOST_BYTES;
         }

@@ -114,21 +114,21 @@ public final class LanguageTest {
         }
     }
 
-    /** All calls of a run live in one room: a call that is asked ten thousand times must leave nothing there. */
+    /** All calls of a run live in one room: so no call leaves anything there. */
     private static void room() {
         PondIceTrade t = Checks.told("trade 500 1 100;frost 0 20;ship 50 10;ship 30 5;town 2 20 10 9;town 1 40 8 5;house 0",
                 "sail want * 2 - coming if [not stock > 3 or pond > 1]; sail 3");
         com.sun.management.ThreadMXBean counter = (com.sun.management.ThreadMXBean) ManagementFactory.getThreadMXBean();
-        long before = 0;
+        long thread = Thread.currentThread().getId();
+        long least = Long.MAX_VALUE;
         int sum = 0;
+        // The first rounds load classes, and the machine may put something of its own into any one of them.
         for (int round = 0; round < 60; round++) {
-            if (round == 20) {
-                before = counter.getThreadAllocatedBytes(Thread.currentThread().getId());
-            }
+            long before = counter.getThreadAllocatedBytes(thread);
             sum += everyCall(t);
+            least = Math.min(least, counter.getThreadAllocatedBytes(thread) - before);
         }
-        long bytes = counter.getThreadAllocatedBytes(Thread.currentThread().getId()) - before;
-        holds("no call makes an object: " + bytes + " bytes", bytes < 4096 && sum != 0);
+        holds("no call makes an object: " + least + " bytes", least == 0 && sum != 0);
     }
 
     private static int everyCall(PondIceTrade t) {
