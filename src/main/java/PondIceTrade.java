@@ -1506,13 +1506,13 @@ public final class PondIceTrade {
             setBest(worldAfter(from, rule, months).money, NONE, 0, 0);
             int most = from.mostBlocks(ship);
             for (int town = 0; town < from.townCount; town++) {
-                for (int i = 2; i < 2 * most + 2; i++) {
-                    int blocks = i / 2;
-                    boolean dust = i % 2 == 1;
-                    if (from.canSail(ship, town, blocks, dust)) {
-                        trial.copyFrom(from);
-                        trial.setSail(ship, town, blocks, dust);
-                        keepBetter(moneyThen(rule), town, blocks, dust ? 1 : 0);
+                for (int blocks = 1; blocks <= most; blocks++) {
+                    for (int dust = 0; dust <= 1; dust++) {
+                        if (from.canSail(ship, town, blocks, dust == 1)) {
+                            trial.copyFrom(from);
+                            trial.setSail(ship, town, blocks, dust == 1);
+                            keepBetter(moneyThen(rule), town, blocks, dust);
+                        }
                     }
                 }
             }
