@@ -80,10 +80,11 @@ public final class PondIceTrade {
         if (ruleCount >= rules.length) {
             return NONE;
         }
-        if (!RuleReader.reads(tape, rules[ruleCount])) {
+        boolean read = RuleReader.reads(tape, rules[ruleCount]);
+        tape.length = 0;
+        if (!read) {
             return MISSING - tape.fault;
         }
-        tape.length = 0;
         ruleCount++;
         return ruleCount - 1;
     }

@@ -531,12 +531,13 @@ final class Model {
         if (rules.size() == 6) {
             return -1;
         }
+        byte[] text = tape;
+        tape = new byte[0];
         try {
-            rules.add(new Parser(tape).rule());
+            rules.add(new Parser(text).rule());
         } catch (Fault f) {
             return -2 - f.number;
         }
-        tape = new byte[0];
         return rules.size() - 1;
     }
 

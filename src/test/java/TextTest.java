@@ -36,7 +36,7 @@ public final class TextTest {
         PondIceTrade t = new PondIceTrade();
         due("rule() of " + text, Checks.rule(t, text), Checks.fault(place, kind));
         due("RULES behind a FAULT of " + text, t.count(5), 0);
-        due("the TAPE behind a FAULT of " + text, t.count(15), text.length());
+        due("the TAPE behind a FAULT of " + text, t.count(15), 0);
     }
 
     private static void newObject() {
@@ -96,6 +96,9 @@ public final class TextTest {
         due("the TAPE is empty then", t.count(15), 0);
         due("bytes above 127 are bytes", t.feed(0xffffffff, -1, -1, -1, -1), 20);
         due("and can't stand anywhere", t.rule(), Checks.fault(0, ODD));
+        due("the TAPE is empty behind a RULE's FAULT", t.count(15), 0);
+        due("what comes is its begin", t.feed(0x7361696c, 0x20312020, 0x20202020, 0x20202020, 0x20202020), 20);
+        due("and is a RULE", t.rule(), 0);
     }
 
     private static void tradeTold() {
