@@ -1,7 +1,11 @@
+import java.util.HashMap;
+import java.util.Map;
+
 /** What the tests share: counting wrong answers, and telling texts to a trade. */
 final class Checks {
     private int asked = 0;
     private int wrong = 0;
+    private final Map<Picture.Maker, String> pictures = new HashMap<>();
 
     void due(String call, long got, long want) {
         asked++;
@@ -9,6 +13,32 @@ final class Checks {
             wrong++;
             if (wrong <= 40) {
                 System.out.println(call + " answered " + got + ", due is " + want);
+            }
+        }
+    }
+
+    /** What a call answers, and that all is as it was behind it. */
+    void leaves(String call, Picture.Maker maker, Picture.Call made, int want) {
+        due(call, made.on(maker.make()), want);
+        changesNothing(call, maker, made);
+    }
+
+    void changesNothing(String call, Picture.Maker maker, Picture.Call made) {
+        alike("what is behind " + call, Picture.of(maker, made),
+                pictures.computeIfAbsent(maker, Picture::of));
+    }
+
+    void alike(String what, String got, String want) {
+        asked++;
+        if (!got.equals(want)) {
+            wrong++;
+            String[] gotLines = got.split("\n", -1);
+            String[] wantLines = want.split("\n", -1);
+            for (int i = 0; i < Math.min(gotLines.length, wantLines.length) && wrong <= 40; i++) {
+                if (!gotLines[i].equals(wantLines[i])) {
+                    System.out.println(what + " is [" + gotLines[i] + "], due is [" + wantLines[i] + "]");
+                    return;
+                }
             }
         }
     }
