@@ -48,7 +48,7 @@ public final class ActEdgeTest {
         CHECKS.due(call, got, want);
     }
 
-    // ---- what MELTS
+    // ---- Promise 9: month; what MELTS
 
     /** What is left of so many blocks in a TOWN, one MONTH away. */
     private static void left(int heat, boolean dust, int blocks, int want) {
@@ -196,7 +196,7 @@ public final class ActEdgeTest {
         due("MONTH 13", t.count(2), 10);
     }
 
-    // ---- the greatest and the least
+    // ---- Promise 9: the greatest and the least
 
     /** 9801 of MONEY come each MONTH. */
     private static void moneyIs99999AtMost() {
@@ -319,7 +319,7 @@ public final class ActEdgeTest {
         }
     }
 
-    // ---- MONTHS by a RULE
+    // ---- Promise 9: MONTHS by a RULE
 
     private static PondIceTrade monthBy(String trade, String rule) {
         PondIceTrade t = Checks.told(trade, rule);
@@ -407,7 +407,7 @@ public final class ActEdgeTest {
         due("one that was sent by hand is not at home", t.town(0, 4), 12);
     }
 
-    // ---- SAIL
+    // ---- Promise 10: sail
 
     private static void sailIs(String trade, int blocks, boolean dust, int want) {
         PondIceTrade t = Checks.told(trade);
@@ -461,7 +461,7 @@ public final class ActEdgeTest {
         sailIs("trade 49 0 99;ship 50 0;town 2 0 5 5", 50, true, NONE);
     }
 
-    // ---- TEACH, BUILD, ASK
+    // ---- Promises 11 to 13: teach, build, ask
 
     /** TOWN 0 has so many blocks and WANTS so many. */
     private static PondIceTrade taught(int stock, int want) {
@@ -542,7 +542,7 @@ public final class ActEdgeTest {
         }
     }
 
-    // ---- UNDO
+    // ---- Promise 14: undo
 
     private static void undoTwenty() {
         for (int acts = 18; acts <= 43; acts++) {
@@ -618,7 +618,7 @@ public final class ActEdgeTest {
         due("with its PRICE", t.town(0, 3), 1);
     }
 
-    // ---- ship and town
+    // ---- Promises 7 and 8: ship, town
 
     private static void shipWhats() {
         PondIceTrade t = Checks.told("trade 900 0 300;ship 50 10;ship 40 9;ship 30 8;town 2 0 0 1;town 3 8 0 1");
@@ -660,7 +660,7 @@ public final class ActEdgeTest {
         due("SOLD there so far", t.town(0, 7), 10 + 11);
     }
 
-    // ---- IMAGES
+    // ---- Promises 32 and 33: image, back
 
     private static void images() {
         PondIceTrade t = Checks.told("trade 0 0 0;town 1 0 0 50");
@@ -717,6 +717,12 @@ public final class ActEdgeTest {
             t.month();
             return t.back(1);
         });
+        CHECKS.changesNothing("other NOTES, and back()", plain, t -> {
+            t.note(NONE, 0);
+            t.note(7, 1);
+            t.note(8, 2);
+            return t.back(1);
+        });
         PondIceTrade t = plain.make();
         Checks.rule(t, "sail 2");
         t.force(1);
@@ -725,6 +731,12 @@ public final class ActEdgeTest {
         due("RULES stay", t.count(5), 2);
         due("the TAPE stays", t.count(15), 20);
         due("the RULE IN FORCE is as it was", t.count(6), 0);
+        due("NOTES are as they were: so", t.ruled(0), 3);
+        t.note(NONE, 0);
+        t.note(0, 901);
+        due("NOTES that are not so", t.ruled(0), 0);
+        t.back(1);
+        due("and so again", t.ruled(0), 3);
         PondIceTrade none = new PondIceTrade();
         due("an IMAGE without a TRADE: MONTH 0", none.image(0), 0);
         Checks.trade(none, "trade 1 1 1");

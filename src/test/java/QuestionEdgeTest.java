@@ -40,6 +40,7 @@ public final class QuestionEdgeTest {
         yearsAllTogether();
         countWhats();
         monthsGoOnByTheRuleInForce();
+        oneQuestionBehindAnother();
         CHECKS.close();
     }
 
@@ -69,7 +70,7 @@ public final class QuestionEdgeTest {
         return t;
     }
 
-    // ---- AHEAD
+    // ---- Promise 15: ahead
 
     private static PondIceTrade going() {
         PondIceTrade t = Checks.told("trade 300 1 200;frost 0 90;frost 1 90;frost 11 50;ship 40 5;ship 20 3;"
@@ -121,7 +122,7 @@ public final class QuestionEdgeTest {
         due("stock without a TOWN", Checks.told("trade 7 0 9").ahead(0, 60, 2), NONE);
     }
 
-    // ---- COMES and LOAD
+    // ---- Promises 16 and 17: comes, load
 
     private static void comesIsAsAVoyage() {
         for (int months = 1; months <= 6; months++) {
@@ -191,7 +192,7 @@ public final class QuestionEdgeTest {
         due("TOWN 3 of three", t.load(3, 1, false), NONE);
     }
 
-    // ---- SEND
+    // ---- Promise 18: send
 
     private static void sendIs(String trade, int n, int money, int town, int blocks, int dust) {
         PondIceTrade t = Checks.told(trade);
@@ -253,7 +254,7 @@ public final class QuestionEdgeTest {
         sendIs("trade 9 0 50;ship 10 0", 24, 9, NONE, 0, 0);
     }
 
-    // ---- FLEET
+    // ---- Promise 19: fleet
 
     private static void fleetIs(PondIceTrade t, String name, int n, int... want) {
         for (int what = 0; what <= 3; what++) {
@@ -312,9 +313,13 @@ public final class QuestionEdgeTest {
         fleetIs("trade 100 0 12;ship 10 0;ship 10 0;town 1 0 10 1;town 1 0 2 9", 1, 128, 0, 1, -2);
         fleetIs("trade 100 0 0;frost 0 9;ship 10 0;town 1 0 10 1", 1, 100, NONE, -2, -2);
         fleetIs("trade 100 0 50;ship 10 0;town 1 40 99 9", 1, 154, 0, -2, -2);
+        fleetIs("trade 0 1 50;ship 10 0;town 1 0 10 1", 1, 0, NONE, -2, -2);
+        // by the RULE it loses 45 in MONTH 1: to be away without a block would be better, but can't be
+        PondIceTrade t = Checks.told("trade 100 5 0;frost 0 9;ship 10 0;town 6 0 10 1", "sail 9");
+        fleetIs(t, "an empty POND", 2, 55, NONE, -2, -2);
     }
 
-    // ---- GIVE
+    // ---- Promise 20: give
 
     private static void giveIs(PondIceTrade t, int town, int n, int money, int blocks) {
         due("give in " + town + " for " + n + ": MONEY", t.give(town, n, 0), money);
@@ -347,7 +352,7 @@ public final class QuestionEdgeTest {
         giveIs(iced(99, 99, 5), 1, 1, 995, 0);
     }
 
-    // ---- SITE
+    // ---- Promise 21: site
 
     /** TOWN 0 (and 1) has ten blocks and WANTS 4; without a HOUSE two blocks more MELT before the second MONTH's sale. */
     private static PondIceTrade housed(int price, boolean two) {
@@ -401,7 +406,7 @@ public final class QuestionEdgeTest {
         due("MONEY 99 builds none", poor.site(24, 1), NONE);
     }
 
-    // ---- PRICING
+    // ---- Promise 22: pricing
 
     private static void pricingIs(PondIceTrade t, int n, int money, int price) {
         due("pricing for " + n + ": MONEY", t.pricing(1, n, 0), money);
@@ -431,9 +436,10 @@ public final class QuestionEdgeTest {
         pricingIs(iced(10, 10, 10), 1, 600, 10);
         pricingIs(iced(9, 10, 10), 1, 600, 20);
         pricingIs(iced(0, 10, 10), 1, 500, 1);
+        pricingIs(Checks.told("trade 0 0 0;town 1 0 9 9;town 1 0 9 9"), 1, 0, 1);
     }
 
-    // ---- WAR
+    // ---- Promise 23: war
 
     private static void warIs(int want, int price, int many, int first, int second) {
         PondIceTrade t = Checks.told("trade 0 0 0;town 1 0 9 9;town 1 0 " + want + " " + price);
@@ -464,6 +470,9 @@ public final class QuestionEdgeTest {
         // of 3 each has 1: at 2 and 2 one has 2, at 1 alone 3
         warIs(3, 10, 1, 1, 1);
         warIs(1, 1, 100, 1, 1);
+        // of PRICE 20 a tenth is 2: nobody can take 1
+        warIs(1, 20, 3, 1, 1);
+        warIs(3, 20, 1, 1, 1);
     }
 
     private static void warGoes() {
@@ -478,7 +487,7 @@ public final class QuestionEdgeTest {
         due("by the PRICE as it is", t.war(0, 0), 100);
     }
 
-    // ---- OUT
+    // ---- Promise 24: out
 
     private static void outBegins() {
         due("now: no POND", Checks.told("trade 9 1 0;ship 5 8;town 1 0 5 5").out(), 0);
@@ -532,7 +541,7 @@ public final class QuestionEdgeTest {
         due("by the RULE IN FORCE", Checks.told("trade 0 0 5;ship 5 0;town 3 0 9 1", "sail 5").out(), 6);
     }
 
-    // ---- HATCH
+    // ---- Promise 25: hatch
 
     private static void hatchGoes() {
         PondIceTrade t = Checks.told("trade 0 0 0;town 1 0 1 1");
@@ -582,7 +591,7 @@ public final class QuestionEdgeTest {
         due("the greatest: " + name, t.hatch(0, came, dust, 2), greatest);
     }
 
-    // ---- NOTES, RULED, LOOK
+    // ---- Promises 26 to 28: note, ruled, look
 
     private static void noteGoes() {
         PondIceTrade t = Checks.told("trade 5 0 0");
@@ -713,7 +722,7 @@ public final class QuestionEdgeTest {
         due("beyond the last MONTH they never part", beyond.look(0) * 10 + beyond.look(1), 2);
     }
 
-    // ---- DRAWS and YEARS
+    // ---- Promises 29 and 30: seed, years
 
     private static void seedGoes() {
         PondIceTrade t = new PondIceTrade();
@@ -817,7 +826,7 @@ public final class QuestionEdgeTest {
         due("the greatest MONEY ten times", rich.years(10, 60, 0), 999990);
     }
 
-    // ---- count
+    // ---- Promise 31: count
 
     private static void countWhats() {
         PondIceTrade t = Checks.told("trade 900 2 300;frost 0 20;ship 50 10;ship 9 0;ship 5 0;town 1 20 10 9;town 2 0 8 5;house 1");
@@ -844,7 +853,7 @@ public final class QuestionEdgeTest {
         due("SHIP 1 away", away.count(8), 5);
     }
 
-    // ---- MONTHS go on by the RULE IN FORCE
+    // ---- All questions
 
     private static void monthsGoOnByTheRuleInForce() {
         PondIceTrade t = Checks.told("trade 100 0 50;frost 0 9;frost 1 9;frost 2 9;ship 10 0;ship 5 0;town 1 0 9 4;town 1 0 9 4");
@@ -868,5 +877,37 @@ public final class QuestionEdgeTest {
         due("pricing: 6", t.pricing(0, 1, 1), 6);
         due("years", t.years(1, 1, 0), 124);
         due("years: SOLD", t.years(2, 1, 1), 12);
+    }
+
+    /** Each question is answered as if it were the only one, also behind one that found more MONEY. */
+    private static void oneQuestionBehindAnother() {
+        PondIceTrade t = Checks.told("trade 100 0 50;ship 10 0;ship 10 0;ship 3 0;town 1 0 9 4;town 1 0 0 9");
+        t.sail(2, 1, 3, false);
+        t.month();
+        Picture.Call[] calls = {x -> x.send(0, 3, 0), x -> x.send(0, 1, 0), x -> x.send(1, 3, 0), x -> x.fleet(3, 0), x -> x.fleet(1, 0),
+            x -> x.give(1, 3, 0), x -> x.give(1, 1, 0), x -> x.give(0, 3, 0), x -> x.site(3, 0), x -> x.site(1, 0), x -> x.pricing(0, 3, 0),
+            x -> x.pricing(1, 3, 0), x -> x.pricing(0, 1, 0), x -> x.years(2, 3, 0), x -> x.war(0, 0), x -> x.hatch(0, 3, false, 0),
+            x -> x.ahead(0, 3, 0), x -> x.out(), x -> x.ruled(0), x -> x.look(0), x -> x.send(0, 3, 1), x -> x.fleet(3, 2), x -> x.give(1, 3, 1),
+            x -> x.site(1, 1), x -> x.pricing(1, 3, 1)};
+        int[] alone = new int[calls.length];
+        for (int i = 0; i < calls.length; i++) {
+            t.image(0);
+            t.back(0);
+            alone[i] = calls[i].on(t);
+        }
+        due("send alone", alone[1], 132);
+        due("fleet alone", alone[4], 132);
+        due("give alone", alone[6], 109);
+        due("site alone", alone[9], 100);
+        due("pricing alone", alone[12], 100);
+        for (int first = 0; first < calls.length; first++) {
+            PondIceTrade other = Checks.told("trade 100 0 50;ship 10 0;ship 10 0;ship 3 0;town 1 0 9 4;town 1 0 0 9");
+            other.sail(2, 1, 3, false);
+            other.month();
+            for (int second = 0; second < calls.length; second++) {
+                due("question " + first, calls[first].on(other), alone[first]);
+                due("question " + second + " behind question " + first, calls[second].on(other), alone[second]);
+            }
+        }
     }
 }

@@ -94,7 +94,7 @@ public final class TextEdgeTest {
         tradeFails(before + (most + 1) + behind, before.length(), NUMBER);
     }
 
-    // ---- Promise 1
+    // ---- Promise 1: a new object
 
     private static void newObject() {
         PondIceTrade t = new PondIceTrade();
@@ -116,7 +116,7 @@ public final class TextEdgeTest {
         due("with RULES of its own", t.count(5), 0);
     }
 
-    // ---- Promises 2 and 3
+    // ---- Promises 2 and 3: feed, end
 
     private static void feedTakesTwentyBytesInOrder() {
         PondIceTrade t = new PondIceTrade();
@@ -182,7 +182,7 @@ public final class TextEdgeTest {
         due("none are left", t.trade(), Checks.fault(0, ODD));
     }
 
-    // ---- Promise 4
+    // ---- Promise 4: trade
 
     private static void textOf400Bytes() {
         tradeIs("trade 1 1 1" + " ".repeat(389), 0);
@@ -383,7 +383,7 @@ public final class TextEdgeTest {
         due("with the TRADE there was", t.count(0), 900);
     }
 
-    // ---- Promise 5
+    // ---- Promise 5: rule
 
     private static void sixRules() {
         PondIceTrade t = Checks.told("trade 0 0 99;ship 99 0;town 1 0 0 1");
@@ -536,6 +536,9 @@ public final class TextEdgeTest {
             ruleFails("sail 1" + (char) odd, 6, ODD);
             ruleFails("sail " + (char) odd + "1", 5, ODD);
             ruleFails((char) odd + "sail 1", 0, ODD);
+            ruleFails("sail 1 if 1" + (char) odd + "2", 11, ODD);
+            ruleFails("sail 1 if 1<" + (char) odd + "2", 12, ODD);
+            ruleFails("sail 1 if " + (char) odd + "1<2", 10, ODD);
         }
     }
 
@@ -576,7 +579,7 @@ public final class TextEdgeTest {
         ruleFails("sail 1" + ";sail 1".repeat(12) + ";x", 84, CLAUSE);
     }
 
-    // ---- what a RULE means
+    // ---- Promise 5: what a RULE means
 
     /** How many blocks a RULE puts into SHIP 1, of 99, in MONTH 1 of two TOWNS. */
     private static void sails(String rule, int blocks) {
@@ -665,6 +668,13 @@ public final class TextEdgeTest {
         sails("sail 50 if town=0 and house=0", 50);
         sails("sail 50 if ship=0", 0);
         sails("sail 50 if town=2", 0);
+        PondIceTrade iced = Checks.told("trade 0 0 50;ship 9 0;ship 9 0;town 1 0 0 1;town 1 0 0 1");
+        iced.sail(0, 1, 5, false);
+        iced.month();
+        iced.force(Checks.rule(iced, "sail stock"));
+        iced.month();
+        due("stock is the ice in the TOWN", iced.town(1, 4), 10);
+        due("and none in the other", iced.town(0, 4), 0);
         PondIceTrade t = Checks.told("trade 9 0 99;ship 9 0;town 1 0 0 1", "sail month-11");
         for (int i = 0; i < 12; i++) {
             t.month();
@@ -695,7 +705,40 @@ public final class TextEdgeTest {
             ruleIs("sail " + word);
             ruleFails("sail " + word + "x", 5, ODD);
             ruleFails("sail " + word.substring(1), 5, ODD);
+            for (String other : spoiled(word)) {
+                ruleFails("sail " + other, 5, ODD);
+            }
         }
+        for (String other : spoiled("sail")) {
+            ruleFails(other + " 1", 0, ODD);
+        }
+        for (String other : spoiled("if")) {
+            ruleFails("sail 1 " + other + " 1<2", 7, ODD);
+        }
+        for (String other : spoiled("and")) {
+            ruleFails("sail 1 if 1<2 " + other + " 1<2", 14, ODD);
+        }
+        for (String other : spoiled("or")) {
+            ruleFails("sail 1 if 1<2 " + other + " 1<2", 14, ODD);
+        }
+        for (String other : spoiled("not")) {
+            ruleFails("sail 1 if " + other + " 1<2", 10, ODD);
+        }
+        for (String word : new String[] {"trade", "frost", "ship", "town", "house"}) {
+            for (String other : spoiled(word)) {
+                tradeFails("trade 1 1 1;" + other + " 1 1", 12, ODD);
+                tradeFails(other + " 1 1 1", 0, ODD);
+            }
+        }
+    }
+
+    /** The word with each of its letters in turn changed into q, which no word has. */
+    private static String[] spoiled(String word) {
+        String[] others = new String[word.length()];
+        for (int i = 0; i < others.length; i++) {
+            others[i] = word.substring(0, i) + "q" + word.substring(i + 1);
+        }
+        return others;
     }
 
     private static void signs() {
@@ -730,6 +773,13 @@ public final class TextEdgeTest {
             sails("sail 1 if [" + left + " or " + middle + "] and " + right + ";sail 2", (a || b) && c ? 1 : 2);
             sails("sail 1 if not " + left + " and " + middle + " or " + right + ";sail 2", !a && b || c ? 1 : 2);
             sails("sail 1 if not [" + left + " or not " + middle + "] or " + right + ";sail 2", !(a || !b) || c ? 1 : 2);
+            sails("sail 1 if " + left + " or " + middle + " or " + right + ";sail 2", a || b || c ? 1 : 2);
+            sails("sail 1 if " + left + " and " + middle + " and " + right + ";sail 2", a && b && c ? 1 : 2);
+            sails("sail 1 if " + left + " and [" + middle + " or " + right + "];sail 2", a && (b || c) ? 1 : 2);
+            sails("sail 1 if " + left + " or [" + middle + " or " + right + "];sail 2", a || b || c ? 1 : 2);
+            sails("sail 1 if " + left + " and not [" + middle + " or " + right + "];sail 2", a && !(b || c) ? 1 : 2);
+            sails("sail 1 if " + left + " and not [" + middle + " and " + right + "];sail 2", a && !(b && c) ? 1 : 2);
+            sails("sail 1 if " + left + " and [" + middle + "] or not " + right + " and " + middle + ";sail 2", a && b || !c && b ? 1 : 2);
         }
         sails("sail 5", 5);
         sails("sail 5 if " + no, 0);
@@ -737,7 +787,7 @@ public final class TextEdgeTest {
         sails("sail 5;sail 6 if " + yes, 5);
     }
 
-    // ---- Promise 6
+    // ---- Promise 6: force
 
     private static void force() {
         PondIceTrade t = new PondIceTrade();
