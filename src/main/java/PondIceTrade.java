@@ -6,6 +6,7 @@ public final class PondIceTrade {
     public static final int NONE = -1;
 
     private static final int MISSING = -2;
+    private static final int WRONGLY_ASKED = -3;
     private static final int MOST_RULES = 6;
     private static final int MOST_UNDONE = 20;
     private static final int MOST_IMAGES = 4;
@@ -167,7 +168,7 @@ public final class PondIceTrade {
     }
 
     public int ahead(int town, int n, int what) {
-        if (!book.now.told || !isWithin(n, 0, Ledger.LAST_NOTED) || !isWithin(what, 0, 3)
+        if (!book.now.told || !isWithin(n, 0, Planner.MOST_AHEAD) || !isWithin(what, 0, 3)
                 || (what >= 2 && !book.now.hasTown(town))) {
             return NONE;
         }
@@ -206,7 +207,7 @@ public final class PondIceTrade {
 
     public int fleet(int n, int what) {
         if (!book.now.told || !Planner.isSpan(n) || !isWithin(what, 0, World.MOST_SHIPS)) {
-            return -3;
+            return WRONGLY_ASKED;
         }
         if (what > 0 && !book.now.isAtHome(what - 1)) {
             return MISSING;
@@ -285,7 +286,7 @@ public final class PondIceTrade {
 
     public int ruled(int what) {
         if (!book.now.told || !isWithin(what, 0, 1)) {
-            return -3;
+            return WRONGLY_ASKED;
         }
         ledger.fill(book, rules, ruleCount);
         return what == 0 ? ledger.fitting() : ledger.firstFitting();
@@ -313,7 +314,8 @@ public final class PondIceTrade {
     }
 
     public int years(int m, int n, int what) {
-        if (!book.now.told || !isWithin(m, 1, 10) || !isWithin(n, 1, 60) || !isWithin(what, 0, 1)) {
+        if (!book.now.told || !isWithin(m, 1, Planner.MOST_TIMES) || !isWithin(n, 1, Planner.MOST_DRAWN)
+                || !isWithin(what, 0, 1)) {
             return NONE;
         }
         planner.drawYears(book, ruleInForce(), m, n);
@@ -1446,8 +1448,11 @@ public final class PondIceTrade {
         static final int PRICING = 5;
 
         static final int MOST_MONTHS = 24;
-        static final int TENTHS = 10;
+        static final int MOST_AHEAD = 60;
         static final int OUT_MONTHS = 60;
+        static final int MOST_TIMES = 10;
+        static final int MOST_DRAWN = 60;
+        static final int TENTHS = 10;
 
         final World trial = new World();
         final int[] best = new int[4];

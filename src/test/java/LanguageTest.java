@@ -18,6 +18,7 @@ import java.util.regex.Pattern;
 public final class LanguageTest {
     private static final Checks CHECKS = new Checks();
     private static final Path SOURCE = Path.of("src/main/java/PondIceTrade.java");
+    private static final Path DOCUMENT = Path.of("../shared/DOC.md");
     private static final String[] FACE = {"feed(int,int,int,int,int)", "end(int)", "trade()", "rule()", "force(int)",
         "ship(int,int)", "town(int,int)", "month()", "sail(int,int,int,boolean)", "teach(int,int)", "build(int)",
         "ask(int,int)", "undo()", "ahead(int,int,int)", "comes(int,int,boolean)", "load(int,int,boolean)",
@@ -26,6 +27,7 @@ public final class LanguageTest {
         "years(int,int,int)", "count(int)", "image(int)", "back(int)"};
 
     public static void main(String[] args) throws IOException {
+        document();
         face();
         for (Class<?> inner : PondIceTrade.class.getDeclaredClasses()) {
             nested(inner);
@@ -39,6 +41,16 @@ public final class LanguageTest {
 
     private static void holds(String rule, boolean so) {
         CHECKS.due(rule, so ? 1 : 0, 1);
+    }
+
+    /** The face that is written out above is the document's, in its order. */
+    private static void document() throws IOException {
+        Matcher method = Pattern.compile("public int (\\w+)\\(([^)]*)\\);").matcher(Files.readString(DOCUMENT));
+        List<String> told = new ArrayList<>();
+        while (method.find()) {
+            told.add(method.group(1) + "(" + method.group(2).replaceAll(" \\w+(, |$)", ",").replaceAll(",$", "") + ")");
+        }
+        holds("the document's methods: " + told, told.equals(List.of(FACE)));
     }
 
     private static void face() {
@@ -62,10 +74,22 @@ public final class LanguageTest {
         for (Field field : face.getDeclaredFields()) {
             holds(field + " is private or NONE", Modifier.isPrivate(field.getModifiers()) || field.getName().equals("NONE"));
         }
+        constant();
         Constructor<?>[] made = face.getDeclaredConstructors();
         holds("one public constructor", made.length == 1 && Modifier.isPublic(made[0].getModifiers())
                 && made[0].getParameterCount() == 0);
         holds("some twelve classes", face.getDeclaredClasses().length <= 11);
+    }
+
+    private static void constant() {
+        try {
+            Field none = PondIceTrade.class.getField("NONE");
+            int open = Modifier.PUBLIC | Modifier.STATIC | Modifier.FINAL;
+            holds("NONE is a public static final int", none.getModifiers() == open && none.getType() == int.class);
+        } catch (NoSuchFieldException missing) {
+            holds("NONE is there", false);
+        }
+        CHECKS.due("NONE", PondIceTrade.NONE, -1);
     }
 
     private static void nested(Class<?> inner) {
